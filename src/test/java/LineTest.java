@@ -93,6 +93,9 @@ public final class LineTest {
         due.is("many(0)", x.many(0), 0);
         due.is("many(1)", x.many(1), 0);
         due.is("the first count stays", x.countAt(0, 0), 7);
+        due.is("no period of what went", x.period(0, 0, 0), YarnMill.BAD);
+        due.is("no name of what went", x.names(27, 0, 0), YarnMill.NONE);
+        due.is("no roller on what went", x.roller(0, 9), YarnMill.BAD);
         due.is("machine", x.machine(1, 1, 1, 0), 0);
         due.is("it has no roller", x.period(0, 0, 0), YarnMill.BAD);
         due.is("roller(0, 4)", x.roller(0, 4), 0);
@@ -192,6 +195,8 @@ public final class LineTest {
         x.roller(0, 1000);
         due.is("period(0, 0, 0)", x.period(0, 0, 0), 777600000000L);
         due.is("names(1000000, 999, 0)", x.names(1000000, 999, 0), YarnMill.NONE);
+        due.is("period(6, 0, 0)", x.period(6, 0, 0), YarnMill.BAD);
+        due.is("roller(6, 1)", x.roller(6, 1), YarnMill.BAD);
         YarnMill y = new YarnMill();
         for (int k = 0; k < 6; k++) {
             y.machine(1, 1, 20, 0);
@@ -218,6 +223,7 @@ public final class LineTest {
         due.is("names(100000, 999, 0)", x.names(100000, 999, 0), 0);
         due.is("names(100001, 999, 0)", x.names(100001, 999, 0), YarnMill.NONE);
         due.is("names(1000000, 0, 0)", x.names(1000000, 0, 0), YarnMill.NONE);
+        due.is("names(1, 0, 0)", x.names(1, 0, 0), YarnMill.NONE);
         int[][] bad = {{0, 0, 0}, {-1, 0, 0}, {1000001, 0, 0}, {1, -1, 0}, {1, 1000, 0}, {1, 0, -1}, {Due.MAX, 0, 0}, {1, Due.MAX, 0}, {1, 0, Due.MIN}};
         for (int[] b : bad) {
             due.is("names" + java.util.Arrays.toString(b), x.names(b[0], b[1], b[2]), YarnMill.BAD);

@@ -23,6 +23,9 @@ public final class RowsTest {
         placesByTheMean();
         clearing();
         clearingEdges();
+        clearingByTheMean();
+        fullRows();
+        whatWasIsGone();
         due.end();
     }
 
@@ -295,6 +298,12 @@ public final class RowsTest {
         }
         due.is("heavy ones", withRow(masses).greatest(0, 200), 199);
         due.is("heavy ones, up to 198", withRow(masses).greatest(0, 198), exactGreatest(masses, 198));
+        int[] wrapping = new int[400];
+        for (int i = 0; i < 400; i++) {
+            wrapping[i] = i % 178 < 89 ? 1000000 : 0;
+        }
+        due.is("products above a long", withRow(wrapping).greatest(0, 200), 178);
+        due.is("25 by 16, 26 by 18, 59 by 32", withRow(3, 2, 2, 0, 4, 0, 1, 3).greatest(0, 4), 4);
         int[] light = {1, 1, 0, 1, 0, 0, 1, 1, 0, 1, 1, 0, 1, 0};
         for (int most = 2; most <= 7; most++) {
             due.is("light ones", withRow(light).greatest(0, most), exactGreatest(light, most));
@@ -394,5 +403,63 @@ public final class RowsTest {
         fill(longOnes, 0, alike(50, 100));
         due.is("l 50", longOnes.cleared(0, 1, 100, 50), 0);
         due.is("about(0, 0)", longOnes.about(0, 0), 0);
+    }
+
+    private static void clearingByTheMean() {
+        YarnMill x = withRow(100, 150, 100, 50, 100, 149, 51, 100);
+        due.is("the bounds themselves", x.cleared(0, 50, 50, 1), 1 + 1);
+        rowIs("cleared", x, 0, 100, 100, 100, 149, 51, 100);
+        YarnMill one = withRow(7);
+        due.is("thin 0 takes a row of one", one.cleared(0, 1, 0, 1), 0);
+        rowIs("cleared", one, 0);
+        YarnMill stays = withRow(7);
+        due.is("thin 1 does not", stays.cleared(0, 1, 1, 1), 0);
+        rowIs("not cleared", stays, 0, 7);
+    }
+
+    /** No call on ROWS of 400 looks behind their last CELL. */
+    private static void fullRows() {
+        YarnMill x = withRow(alike(400, 1000));
+        fill(x, 1, alike(400, 2000));
+        due.is("join(0, 1)", x.join(0, 1), 400);
+        due.is("about(0, 1)", x.about(0, 1), 1200000);
+        due.is("about(0, 2)", x.about(0, 2), 0);
+        due.is("fault(0, 400, 500)", x.fault(0, 400, 500), 300000);
+        due.is("fault(0, 2, 0)", x.fault(0, 2, 0), 0);
+        due.is("wave(0, 200)", x.wave(0, 200), 0);
+        int[] halves = alike(400, 1500);
+        Arrays.fill(halves, 200, 400, 4500);
+        due.is("greatest(0, 200)", x.greatest(0, 200), exactGreatest(halves, 200));
+        due.is("thick", x.places(0, 50, 50, 50, 0), 1);
+        due.is("thin", x.places(0, 50, 50, 50, 1), 1);
+        due.is("cleared", x.cleared(0, 51, 50, 50), 0);
+        due.is("about(0, 0)", x.about(0, 0), 200);
+        due.is("gather(1, 3)", x.gather(1, 3), 134);
+        due.is("the last one", x.at(1, 133), 2000);
+    }
+
+    /** What a ROW had ahead of empty, gather or cleared counts no more. */
+    private static void whatWasIsGone() {
+        YarnMill x = withRow(alike(10, 1000000));
+        fill(x, 1, alike(10, 1000000));
+        x.empty(0);
+        x.empty(1);
+        fill(x, 0, 1, 2, 3);
+        fill(x, 1, 1, 1, 1);
+        due.is("join(0, 1)", x.join(0, 1), 3);
+        due.is("about(0, 1)", x.about(0, 1), 9);
+        due.is("wave(0, 2)", x.wave(0, 2), 2 * (4 + 9) - 25);
+        due.is("thick", x.places(0, 30, 30, 1, 0), 1);
+        due.is("fault(0, 4, 1000)", x.fault(0, 4, 1000), 0);
+        due.is("gather(0, 2)", x.gather(0, 2), 2);
+        due.is("cell(0, 6)", x.cell(0, 6), 3);
+        rowIs("gathered", x, 0, 5, 4, 6);
+        due.is("join(0, 1)", x.join(0, 1), 3);
+        rowIs("joined", x, 0, 6, 5, 7);
+        YarnMill first = withRow(1000000, 1);
+        fill(first, 1, 1, 1);
+        long ahead = first.digest();
+        due.refused("the first one is above 1000000", first.join(0, 1), YarnMill.BEYOND, first, ahead);
+        due.refused("the first one is above 1000000", first.gather(0, 2), YarnMill.BEYOND, first, ahead);
     }
 }

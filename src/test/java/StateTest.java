@@ -48,7 +48,8 @@ public final class StateTest {
         x.plan(2, 5, 5);
         x.draw(0, 5, 5, 0, 0);
         x.draw(7, 6, 5, 0, 0);
-        int[] want = {2, 3, 8, 4, 11};
+        x.cell(3, 5);
+        int[] want = {2, 3, 8, 4, 12};
         for (int what = 0; what <= 4; what++) {
             due.is("many(" + what + ")", x.many(what), want[what]);
         }
@@ -63,6 +64,7 @@ public final class StateTest {
         x.machine(2, 5, 1, 0);
         x.roller(0, 9);
         x.cell(6, 11);
+        x.cell(0, 44);
         x.cell(1, 22);
         x.cell(1, 33);
         x.bale(4);
@@ -70,11 +72,11 @@ public final class StateTest {
         x.bale(6);
         x.bale(6);
         x.plan(2, 6, 6);
-        long[] told = {1, 1, 4, 2, 3, 6, 35, 22, 33, 11, 0, 1, 2, 3};
+        long[] told = {1, 1, 4, 2, 4, 6, 35, 44, 22, 33, 11, 0, 1, 2, 3};
         due.is("digest()", x.digest(), mixed(told));
         due.is("digest() again", x.digest(), mixed(told));
         x.bale(6);
-        due.is("without a plan", x.digest(), mixed(new long[] {1, 1, 5, 0, 3, 6, 35, 22, 33, 11}));
+        due.is("without a plan", x.digest(), mixed(new long[] {1, 1, 5, 0, 4, 6, 35, 44, 22, 33, 11}));
     }
 
     private static long mixed(long[] told) {
