@@ -18,14 +18,6 @@ public final class BalesTest {
         due.end();
     }
 
-    private static YarnMill with(int... numbers) {
-        YarnMill x = new YarnMill();
-        for (int v : numbers) {
-            x.bale(v);
-        }
-        return x;
-    }
-
     private static void planIs(String what, YarnMill x, int n, int... want) {
         due.is(what + ": laydowns", x.many(3), want.length / n);
         for (int i = 0; i < want.length; i++) {
@@ -54,7 +46,7 @@ public final class BalesTest {
     }
 
     private static void clearing() {
-        YarnMill x = with(5, 5, 5);
+        YarnMill x = Mills.withBales(5, 5, 5);
         x.plan(3, 5, 5);
         due.is("tries()", x.tries(), 2);
         due.is("clearBales()", x.clearBales(), 3);
@@ -67,7 +59,7 @@ public final class BalesTest {
     }
 
     private static void planOfPairs() {
-        YarnMill x = with(10, 30, 20, 22, 18, 20);
+        YarnMill x = Mills.withBales(10, 30, 20, 22, 18, 20);
         due.is("plan(2, 20, 20)", x.plan(2, 20, 20), 3);
         planIs("pairs", x, 2, 0, 1, 2, 5, 3, 4);
         due.is("tries()", x.tries(), 5);
@@ -77,36 +69,36 @@ public final class BalesTest {
         }
         due.is("plan(6, 20, 20)", x.plan(6, 20, 20), 1);
         planIs("one of six", x, 6, 0, 1, 2, 3, 4, 5);
-        YarnMill back = with(10, 20, 20, 10);
+        YarnMill back = Mills.withBales(10, 20, 20, 10);
         due.is("plan(2, 15, 15)", back.plan(2, 15, 15), 2);
         planIs("the first of two", back, 2, 0, 1, 2, 3);
     }
 
     private static void planOfTriples() {
-        YarnMill x = with(1, 2, 3, 4, 5, 6, 7, 8, 9);
+        YarnMill x = Mills.withBales(1, 2, 3, 4, 5, 6, 7, 8, 9);
         due.is("plan(3, 5, 5)", x.plan(3, 5, 5), 3);
         planIs("triples", x, 3, 0, 4, 8, 1, 5, 6, 2, 3, 7);
         due.is("plan(3, 4, 6)", x.plan(3, 4, 6), 3);
-        YarnMill six = with(10, 30, 20, 22, 18, 20);
+        YarnMill six = Mills.withBales(10, 30, 20, 22, 18, 20);
         due.is("plan(3, 20, 20)", six.plan(3, 20, 20), 2);
         planIs("two triples", six, 3, 0, 1, 2, 3, 4, 5);
     }
 
     private static void planOfSingles() {
-        YarnMill x = with(7, 5, 9);
+        YarnMill x = Mills.withBales(7, 5, 9);
         due.is("plan(1, 5, 9)", x.plan(1, 5, 9), 3);
         planIs("singles", x, 1, 0, 1, 2);
         due.is("no tries", x.tries(), 0);
         due.is("plan(1, 6, 9)", x.plan(1, 6, 9), YarnMill.NONE);
         due.is("plan(1, 5, 8)", x.plan(1, 5, 8), YarnMill.NONE);
         due.is("no tries", x.tries(), 0);
-        YarnMill most = with(10000, 10000, 10000, 10000, 10000, 10000, 10000, 10000, 10000, 10000, 10000, 10000);
+        YarnMill most = Mills.withBales(10000, 10000, 10000, 10000, 10000, 10000, 10000, 10000, 10000, 10000, 10000, 10000);
         due.is("plan(6, 10000, 10000)", most.plan(6, 10000, 10000), 2);
         due.is("plan(6, 0, 9999)", most.plan(6, 0, 9999), YarnMill.NONE);
     }
 
     private static void planRefused() {
-        YarnMill x = with(5, 5, 5, 5);
+        YarnMill x = Mills.withBales(5, 5, 5, 5);
         due.is("plan(2, 5, 5)", x.plan(2, 5, 5), 2);
         long ahead = x.digest();
         int[][] bad = {{0, 0, 1}, {7, 0, 1}, {-1, 0, 1}, {2, -1, 1}, {2, 0, 10001}, {2, 6, 5}, {2, 10001, 10001}, {3, 6, 5},
@@ -124,7 +116,7 @@ public final class BalesTest {
     }
 
     private static void planGoes() {
-        YarnMill x = with(5, 5);
+        YarnMill x = Mills.withBales(5, 5);
         x.plan(2, 5, 5);
         due.is("plan(2, 6, 7)", x.plan(2, 6, 7), YarnMill.NONE);
         due.is("NONE takes the plan", x.planAt(0, 0), YarnMill.NONE);
@@ -138,7 +130,7 @@ public final class BalesTest {
     }
 
     private static void planOfNoBales() {
-        YarnMill x = with(1, 1);
+        YarnMill x = Mills.withBales(1, 1);
         x.plan(2, 1, 1);
         x.clearBales();
         due.is("plan(3, 0, 0)", x.plan(3, 0, 0), 0);
@@ -149,16 +141,16 @@ public final class BalesTest {
 
     private static void triesOfSearches() {
         due.is("before any plan", new YarnMill().tries(), 0);
-        YarnMill x = with(10, 30, 20, 22, 18, 20);
+        YarnMill x = Mills.withBales(10, 30, 20, 22, 18, 20);
         due.is("plan(2, 25, 30)", x.plan(2, 25, 30), YarnMill.NONE);
         due.is("five, none of them held", x.tries(), 5);
         due.is("plan(3, 25, 25)", x.plan(3, 25, 25), YarnMill.NONE);
         due.is("five seconds, ten thirds", x.tries(), 15);
-        YarnMill back = with(1, 2, 3, 3, 2, 1);
+        YarnMill back = Mills.withBales(1, 2, 3, 3, 2, 1);
         due.is("plan(2, 2, 2)", back.plan(2, 2, 2), 3);
         planIs("0 2, 1 4, 3 5", back, 2, 0, 2, 1, 4, 3, 5);
         due.is("two, two (1 3, 1 4), one", back.tries(), 2 + 2 + 1);
-        YarnMill undone = with(10, 18, 20, 12);
+        YarnMill undone = Mills.withBales(10, 18, 20, 12);
         due.is("plan(2, 14, 15)", undone.plan(2, 14, 15), 2);
         planIs("0 1 held, but not 2 3", undone, 2, 0, 2, 1, 3);
         due.is("0 1, 2 3, 0 2, 1 3", undone.tries(), 4);
@@ -169,7 +161,7 @@ public final class BalesTest {
         int[] numbers = new int[12];
         Arrays.fill(numbers, 5000);
         numbers[11] = 10000;
-        YarnMill x = with(numbers);
+        YarnMill x = Mills.withBales(numbers);
         for (int n = 1; n <= 6; n++) {
             if (12 % n == 0) {
                 due.is("plan(" + n + ", 5000, 5000)", x.plan(n, 5000, 5000), YarnMill.NONE);

@@ -12,6 +12,13 @@ final class Due {
         }
     }
 
+    void same(String what, String got, String want) {
+        if (!got.equals(want)) {
+            wrong++;
+            System.out.println(what + ": " + got + ", due is " + want);
+        }
+    }
+
     /** A refusal: its answer, and that the state's digest is what it was ahead of the call. */
     void refused(String call, long got, long want, YarnMill mill, long digestAhead) {
         is(call, got, want);
