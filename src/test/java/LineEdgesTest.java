@@ -6,6 +6,7 @@ public final class LineEdgesTest {
     public static void main(String[] args) {
         theFirstCountIsOneByOne();
         countsAreToldInLowestTerms();
+        lowestTermsOfTheGreatestDivisor();
         periodsAreToldInLowestTerms();
         theLeastAndGreatestFirstCount();
         aCountGoesForTheOneThatWas();
@@ -33,6 +34,7 @@ public final class LineEdgesTest {
         namesFromTheLowerBoundOn();
         namesUpToTheUpperBound();
         namesHoldFractionsExactly();
+        namesHoldGreatFractionsExactly();
         namesOfTheLeastAndGreatest();
         theIthName();
         theLastOfAllNames();
@@ -78,6 +80,17 @@ public final class LineEdgesTest {
         YarnMill x = withCount(3, 8);
         x.machine(16, 60, 20, 500);
         counts("3 by 8, times 16, by 2, by 3", x, 1, 1, 1);
+    }
+
+    /** Behind the last MACHINE, ahead of being told, above and below have 14558427000 in common. */
+    private static void lowestTermsOfTheGreatestDivisor() {
+        YarnMill x = withCount(5900, 999);
+        x.machine(1, 13, 1, 0);
+        x.machine(1, 19, 1, 0);
+        x.machine(10, 11, 7, 0);
+        counts("413000 by 2714283", x, 3, 413000, 2714283);
+        x.machine(13, 59, 19, 1);
+        counts("7 by 11", x, 4, 7, 11);
     }
 
     private static void periodsAreToldInLowestTerms() {
@@ -389,6 +402,16 @@ public final class LineEdgesTest {
         due.is("313 by 2: from 312.374", x.names(313, 2, 0), 0);
         due.is("250 by 250: up to 312.5 itself", x.names(250, 250, 0), 0);
         due.is("625 by 500: from 312.5 itself", x.names(625, 500, 0), 0);
+    }
+
+    /** 997 59^5 by 19^5 is 287863.9..: P times 19^5 is far above an int. */
+    private static void namesHoldGreatFractionsExactly() {
+        YarnMill x = withDrafts(1, 1, 59, 19, 59, 19, 59, 19, 59, 19, 59, 19);
+        x.roller(0, 997);
+        due.is("287863", x.names(287863, 0, 0), YarnMill.NONE);
+        due.is("287863 by 1", x.names(287863, 1, 0), 0);
+        due.is("287864", x.names(287864, 0, 0), YarnMill.NONE);
+        due.is("287864 by 1", x.names(287864, 1, 0), 0);
     }
 
     private static void namesOfTheLeastAndGreatest() {

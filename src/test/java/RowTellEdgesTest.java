@@ -16,6 +16,8 @@ public final class RowTellEdgesTest {
         greatestUpToTwoHundred();
         greatestOfLikeOnes();
         greatestByCellsThatWereTaken();
+        greatestOfNearlyLikeOnes();
+        greatestOfTheHeaviest();
         placesOfNone();
         placesFromTheThickBoundOn();
         placesUpToTheThinBound();
@@ -145,6 +147,32 @@ public final class RowTellEdgesTest {
         YarnMill x = Mills.withRow(masses);
         for (int most = 2; most <= 6; most++) {
             due.is("up to " + most, x.greatest(0, most), Waves.greatest(most, masses));
+        }
+    }
+
+    /** Every ROW of 9 CELLS of 0, 1 or 2: many have WAVES that differ by less than 1 as they are held. */
+    private static void greatestOfNearlyLikeOnes() {
+        int[] masses = new int[9];
+        for (int kind = 0; kind < 19683; kind++) {
+            int rest = kind;
+            for (int i = 0; i < 9; i++) {
+                masses[i] = rest % 3;
+                rest /= 3;
+            }
+            due.is("row " + Arrays.toString(masses), Mills.withRow(masses).greatest(0, 4), Waves.greatest(4, masses));
+        }
+    }
+
+    /** Multiplied across, these WAVES would leave a long. */
+    private static void greatestOfTheHeaviest() {
+        for (int p : new int[] {2, 3, 101, 133, 178, 199, 200}) {
+            int[] masses = new int[400];
+            for (int i = 0; i < 400; i++) {
+                masses[i] = i % p < p / 2 ? 1000000 : 0;
+            }
+            due.is("a period of " + p, Mills.withRow(masses).greatest(0, 200), Waves.greatest(200, masses));
+            masses[399] = 999999;
+            due.is("a period of " + p + ", one other", Mills.withRow(masses).greatest(0, 200), Waves.greatest(200, masses));
         }
     }
 
